@@ -1001,6 +1001,7 @@ public final class SkewPlan {
             isNoNumber[place] = true;
         }
 
+        /** Divided by 0, all but 0 itself is endless, which the machine answers without a throw. */
         void putQuotient(int place, int a, int b) {
             if (a == 0 && b == 0) {
                 putNoNumber(place);

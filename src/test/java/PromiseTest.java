@@ -672,6 +672,15 @@ public final class PromiseTest {
         due.is("23 no number then", x.sum(0, 1), 4);
         due.is("23 no number by a number", x.rest(0, DOUBLES, 1, 5), 2000000);
         due.is("23 is still none", x.sum(0, 1), 4);
+        SkewPlan even = new SkewPlan();
+        even.trace(0, FLOATS, 2);
+        for (int times = 0; times <= 70; times++) {
+            even.set(0, FLOATS, 0, -3 * times, 1);
+            even.set(0, FLOATS, 1, 3, 1);
+            due.is("23 nothing over, " + times + " times", even.rest(0, FLOATS, 0, 1), 2000000);
+            even.set(0, FLOATS, 0, 3 * times + 2, 1);
+            due.is("23 two over, " + times + " times", even.rest(0, FLOATS, 0, 1), 2002000);
+        }
         due.is("23 by itself", x.rest(0, DOUBLES, 5, 5), 2000000);
         due.is("23 which is a number", x.sum(0, 1), 4);
         due.is("23 nought by nought", x.rest(0, DOUBLES, 4, 5), 2000000);
