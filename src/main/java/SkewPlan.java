@@ -67,11 +67,11 @@ public final class SkewPlan {
     }
 
     public int fault() {
-        return readIntoScratch();
+        return text.read(told, scratch);
     }
 
     public int net() {
-        if (readIntoScratch() != NONE) {
+        if (text.read(told, scratch) != NONE) {
             return NOT;
         }
         told.copyFrom(scratch);
@@ -394,12 +394,6 @@ public final class SkewPlan {
         return places;
     }
 
-    /** Clauses are tried on a copy, as a later fault must leave the net alone. */
-    private int readIntoScratch() {
-        scratch.copyFrom(told);
-        return text.read(scratch);
-    }
-
     /** No least period counts as more than any. */
     private static int orAboveAll(int period) {
         return period == NONE ? MOST_PERIOD + 1 : period;
@@ -561,13 +555,17 @@ public final class SkewPlan {
             return true;
         }
 
-        /** Does the clauses on a net up to the first fault: its place, or NONE. */
-        int read(Net net) {
+        /**
+         * Does the clauses, up to the first fault, on a copy, as a fault leaves the net itself alone:
+         * the fault's place, or NONE.
+         */
+        int read(Net before, Net copy) {
+            copy.copyFrom(before);
             clauses = 0;
             tokenEnd = 0;
             advance();
             for (int clause = 1; clause <= MOST_CLAUSES; clause++) {
-                if (!readClause(net)) {
+                if (!readClause(copy)) {
                     return tokenStart;
                 }
                 clauses = clause;
