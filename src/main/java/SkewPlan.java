@@ -731,7 +731,7 @@ public final class SkewPlan {
 
     /** Shifts found, or shown not to be, from the bounds between each two registers. */
     private static final class Planner {
-        private static final int NO_BOUND = Integer.MAX_VALUE;
+        private static final int NO_BOUND = 1000000000;
         /** More halvings than an int has bits are never needed. */
         private static final int MOST_HALVINGS = 32;
 

@@ -606,6 +606,9 @@ public final class PromiseTest {
         due.is("21 none counted", x.sum(0, 1), 0);
         // a float so multiplied as a float rounds where a double does not
         for (int b = 1; b <= 9999; b += 7) {
+            x = new SkewPlan();
+            x.trace(0, FLOATS, 2);
+            x.trace(1, DOUBLES, 2);
             for (int a = -9999; a <= 9999; a += 1111) {
                 int asFloat = (int) ((float) a / (float) b * 1000f);
                 int asDouble = (int) ((double) a / (double) b * 1000.0);
@@ -694,10 +697,10 @@ public final class PromiseTest {
     }
 
     private static void promise23RestIsTheMachines() {
-        SkewPlan x = new SkewPlan();
-        x.trace(0, FLOATS, 3);
-        x.trace(1, DOUBLES, 3);
         for (int turn = 1; turn < 4000; turn++) {
+            SkewPlan x = new SkewPlan();
+            x.trace(0, FLOATS, 3);
+            x.trace(1, DOUBLES, 3);
             int a = turn * 7919 % 19999 - 9999;
             int b = turn * 104729 % 9999 + 1;
             int c = turn * 31 % 997 + 1;
@@ -823,12 +826,13 @@ public final class PromiseTest {
     /** Numbers from anywhere are answered, in a net that is empty and in one that is not. */
     private static void wildNumbersThrowNothing() {
         int[] wild = {LOWEST, -10000, -1, 0, 1, 8, 16, 200, 10000, HIGHEST};
-        SkewPlan[] plans = {new SkewPlan(), Due.of(RING + ";period 30"), Due.of(RING)};
+        String[] texts = {"net 2", RING + ";period 30", RING};
         int thrown = 0;
-        for (SkewPlan x : plans) {
-            x.trace(0, FLOATS, 8);
-            x.trace(1, DOUBLES, 1);
+        for (String text : texts) {
             for (int a : wild) {
+                SkewPlan x = Due.of(text);
+                x.trace(0, FLOATS, 8);
+                x.trace(1, DOUBLES, 1);
                 for (int b : wild) {
                     try {
                         askWild(x, a, b);
