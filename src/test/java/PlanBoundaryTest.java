@@ -270,6 +270,20 @@ public final class PlanBoundaryTest {
         margin("path 0 1 50 48;period 999", 2498);
         // both in steps of 9: -5 and 5 are -9 and 0, 2 lower they are -9 and 0, 4 higher -9 and 9
         margin("path 0 1 15 5;period 10;step 9", 1996);
+        due.words("Terms", "With a MARGIN m: .. less m (its LATE bound); .. less m (its SOON bound)");
+        margin("path 0 0 9 9;period 15", 2006);
+        margin("path 0 0 9 9;period 18", 2009);
+        margin("path 0 0 9 9;period 19", 2009);
+        // 0 1 by LATE, 1 2 by LATE, 2 0 by LATE: three times m
+        margin("net 3;path 0 1 9 9;path 1 2 9 9;path 2 0 9 9;period 12", 2003);
+        margin("net 3;path 0 1 9 9;path 1 2 9 9;path 2 0 8 8;period 12", 2003);
+        margin("net 3;path 0 1 9 9;path 1 2 9 9;path 2 0 6 6;period 12", 2004);
+        due.words("Terms", "a MARGIN (0, if none is told)");
+        due.is("just with 0", Due.of("path 0 0 9 9;hold 9;period 9").margin(), 2000);
+        due.is("feasible then", Due.of("path 0 0 9 9;hold 9;period 9").feasible(), 1);
+        due.is("just not with 0", Due.of("path 0 0 9 8;hold 9;period 9").margin(), 1999);
+        due.is("not feasible then", Due.of("path 0 0 9 8;hold 9;period 9").feasible(), 0);
+        due.is("least() then", Due.of("path 0 0 9 9;hold 9").least(), 9);
         due.words("Promise 16", "by which it is FEASIBLE at PERIOD");
         SkewPlan x = Due.of("path 0 0 50 50;period 50");
         due.is("just feasible", x.margin(), 2000);
@@ -295,6 +309,10 @@ public final class PlanBoundaryTest {
         SkewPlan same = Due.of("path 1 1 50 9;hold 9;period 50");
         due.is("to itself: LATE just met", same.spare(0, 0), 0);
         due.is("to itself: SOON just met", same.spare(0, 1), 0);
+        // 0 is 5 below 1, a whole step; the bounds themselves are not cut
+        SkewPlan steps = Due.of("path 0 1 13 9;period 10;step 5");
+        due.is("in steps of 5: LATE", steps.spare(0, 0), 2);
+        due.is("in steps of 5: SOON", steps.spare(0, 1), 4);
         due.is("the greatest LATE", Due.of("path 0 1 0 0;period 999").spare(0, 0), 999);
         due.is("the greatest SOON", slowest(Due.of("path 0 1 99 99;period 999"), 0).spare(0, 1), 199);
     }
@@ -332,7 +350,7 @@ public final class PlanBoundaryTest {
     private static void cycleBounds() {
         due.words("Terms", "CYCLE: the REGISTERS, all unlike, of a ring");
         // 0 1 2 1 is below 0 too, and would come first, but has 1 twice
-        ring("net 3;path 0 1 10 10;path 1 2 40 0;period 11", 1, 2);
+        ring("net 8;path 0 1 10 10;path 1 2 40 0;period 11", 1, 2);
         due.words("Terms", "CYCLE: each one's SHIFT less that of the one behind it");
         // only 0 1 2 is below 0, not 0 2 1, which the same registers make the other way round
         ring("net 3;path 0 1 9 9;path 1 2 9 9;path 2 0 9 9;period 8", 0, 1, 2);
@@ -355,6 +373,8 @@ public final class PlanBoundaryTest {
         ring("path 0 1 15 3;hold 9;period 21");
         ring("net 3;path 0 1 8 8;path 1 2 8 8;path 2 0 11 11;period 9");
         ring("path 1 1 9 4;hold 4");
+        // not feasible by another ring, while 0 by itself, and 0 1, are just 0
+        ring("path 0 0 10 0;path 0 1 13 3;path 1 1 20 20;period 10", 1);
     }
 
     private static void cycleFirst() {
@@ -423,6 +443,8 @@ public final class PlanBoundaryTest {
         due.is("feasible then, by the last", Due.of("path 0 1 99 99;path 1 1 99 0;hold 9").buffer(9), 1);
         due.is("81 by the first, 77 by the second", Due.of("path 0 1 60 3;path 1 0 60 3;path 1 0 80 80;hold 4").buffer(4), 1);
         due.is("77 by the first, 81 by the second", Due.of("path 0 1 60 3;path 1 0 60 3;path 0 1 80 80;hold 4").buffer(4), 0);
+        SkewPlan most = Due.of(Due.EIGHT_PATHS, "path 0 1 9 9;".repeat(7) + "path 1 1 99 8;hold 9");
+        due.is("feasible then, by the sixteenth", most.buffer(1), 15);
         due.words("Promise 19", "NONE");
         due.is("no paths", new SkewPlan().buffer(20), NONE);
         due.is("none as before", Due.of("path 0 0 9 0;hold 2").buffer(1), NONE);

@@ -104,6 +104,8 @@ public final class RefusalTest {
         answers.add(x.fault());
         answers.add(x.net());
         addNet(answers, x);
+        answers.add(Due.tell(x, "step 3"));
+        addNet(answers, x);
         return answers;
     }
 

@@ -246,6 +246,11 @@ public final class TextBoundaryTest {
             fault(word.substring(1) + " 2", 0);
             fault(word + word.charAt(0) + " 2", 0);
         }
+        for (String clause : new String[] {"net 2", "path 0 1 9 9", "setup 1", "hold 1", "step 1", "period 1"}) {
+            for (int i = 0; i < clause.indexOf(' '); i++) {
+                fault(clause.substring(0, i) + "x" + clause.substring(i + 1), 0);
+            }
+        }
         fault("paths 0 1 9 9", 0);
         fault("pat 0 1 9 9", 0);
     }
@@ -504,6 +509,9 @@ public final class TextBoundaryTest {
         due.is("nothing of it is done", x.count(0), 4);
         due.is("count(3)", x.count(3), 0);
         due.is("the text stays", x.count(8), 19);
+        due.is("another text", Due.tell(x, "setup 2"), 1);
+        due.is("nothing of the one that was refused", x.count(0), 4);
+        due.is("count(3) still", x.count(3), 0);
         x.erase();
         due.is("empty again", x.net(), NOT);
         due.is("count(0) still", x.count(0), 4);

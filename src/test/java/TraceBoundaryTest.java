@@ -263,6 +263,9 @@ public final class TraceBoundaryTest {
             rest(sort, -7, 1, 2, 1, 1999000);
             rest(sort, 7, 1, -2, 1, 2001000);
             rest(sort, -7, 1, -2, 1, 1999000);
+            rest(sort, -3, 4, 1, 2, 1999750);
+            rest(sort, 3, 4, -1, 2, 2000250);
+            rest(sort, -3, 4, -1, 2, 1999750);
             rest(sort, 6, 1, 2, 1, 2000000);
             rest(sort, 2, 1, 2, 1, 2000000);
             rest(sort, 1, 1, 2, 1, 2001000);
